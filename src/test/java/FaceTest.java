@@ -1,0 +1,78 @@
+import java.lang.reflect.Constructor;
+import java.lang.reflect.Field;
+import java.lang.reflect.Method;
+import java.lang.reflect.Modifier;
+import java.util.Arrays;
+import java.util.TreeSet;
+import java.util.stream.Collectors;
+
+/** The class has the document's face and no other member that a caller could see. */
+public final class FaceTest {
+    private static final String[] FACE = {
+        "BoardStore(int)",
+        "boolean feed(int) IllegalStateException",
+        "int block() IllegalStateException",
+        "int version() IllegalStateException",
+        "boolean holds(int,int) IndexOutOfBoundsException IllegalStateException",
+        "int root(int) IndexOutOfBoundsException IllegalStateException",
+        "int sweep() IllegalStateException",
+        "int pack() IllegalStateException",
+        "int byteAt(int,int) IndexOutOfBoundsException IllegalStateException",
+        "boolean crash(int) IllegalArgumentException IllegalStateException",
+        "int reopen() IllegalStateException",
+        "boolean poke(int,int,int) IndexOutOfBoundsException IllegalStateException",
+        "int badAt() IllegalStateException",
+        "int packByte(int,int) IndexOutOfBoundsException IllegalStateException",
+        "int digest(int,int) IndexOutOfBoundsException IllegalStateException",
+        "int out(int,int) IndexOutOfBoundsException IllegalStateException",
+        "boolean drop(int) IndexOutOfBoundsException IllegalStateException",
+        "int NONE",
+    };
+
+    public static void main(String[] args) {
+        Due due = new Due("FaceTest");
+        due.part("face");
+        due.same("members", new TreeSet<>(Arrays.asList(FACE)).toString(), visibleMembers().toString());
+        due.is("NONE", -1, () -> BoardStore.NONE);
+        int modifiers = BoardStore.class.getModifiers();
+        due.is("public and final", true, () -> Modifier.isPublic(modifiers) && Modifier.isFinal(modifiers));
+        due.is("all visible members are public", true, FaceTest::allVisiblePublic);
+        due.end();
+    }
+
+    private static TreeSet<String> visibleMembers() {
+        TreeSet<String> seen = new TreeSet<>();
+        for (Constructor<?> c : BoardStore.class.getDeclaredConstructors()) {
+            if (!Modifier.isPrivate(c.getModifiers())) {
+                seen.add("BoardStore(" + names(c.getParameterTypes(), ",") + ")");
+            }
+        }
+        for (Method m : BoardStore.class.getDeclaredMethods()) {
+            if (!Modifier.isPrivate(m.getModifiers()) && !m.isSynthetic()) {
+                seen.add(m.getReturnType().getSimpleName() + " " + m.getName()
+                        + "(" + names(m.getParameterTypes(), ",") + ") " + names(m.getExceptionTypes(), " "));
+            }
+        }
+        for (Field f : BoardStore.class.getDeclaredFields()) {
+            if (!Modifier.isPrivate(f.getModifiers()) && !f.isSynthetic()) {
+                seen.add(f.getType().getSimpleName() + " " + f.getName());
+            }
+        }
+        return seen;
+    }
+
+    private static boolean allVisiblePublic() {
+        boolean all = true;
+        for (Method m : BoardStore.class.getDeclaredMethods()) {
+            all &= m.isSynthetic() || Modifier.isPrivate(m.getModifiers()) || Modifier.isPublic(m.getModifiers());
+        }
+        for (Field f : BoardStore.class.getDeclaredFields()) {
+            all &= f.isSynthetic() || Modifier.isPrivate(f.getModifiers()) || Modifier.isPublic(f.getModifiers());
+        }
+        return all;
+    }
+
+    private static String names(Class<?>[] types, String between) {
+        return Arrays.stream(types).map(Class::getSimpleName).collect(Collectors.joining(between));
+    }
+}
