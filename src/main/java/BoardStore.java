@@ -35,6 +35,8 @@ public final class BoardStore {
     private final Pieces blocks;
     private final Marks there;
     private final Marks packed;
+    // Only a sweep uses it; made once so that no sweep makes a row.
+    private final Marks held;
     // The open piece of the versions is the open version; it has no number that a caller may use.
     private final Pieces versions;
     private final Marks dropped;
@@ -46,6 +48,7 @@ public final class BoardStore {
         this.blocks = new Pieces(MOST_BLOCKS, ROOM_OF_BLOCKS);
         this.there = new Marks(MOST_BLOCKS);
         this.packed = new Marks(MOST_BLOCKS);
+        this.held = new Marks(MOST_BLOCKS);
         this.versions = new Pieces(MOST_VERSIONS, ROOM_OF_VERSIONS);
         this.dropped = new Marks(MOST_VERSIONS);
         this.packs = new Pieces(Math.max(1, Math.min(MOST_PACKS, packs)), ROOM_OF_PACKS);
@@ -90,7 +93,8 @@ public final class BoardStore {
         requireRunning();
         requireVersion(version);
         int sum = SUM_AT_FIRST;
-        for (int k = 0; k < lengthOfVersion(version); k++) {
+        int length = lengthOfVersion(version);
+        for (int k = 0; k < length; k++) {
             int block = versions.at(version, k);
             sum = blocks.sum(sum, block, blocks.length(block));
         }
@@ -196,7 +200,8 @@ public final class BoardStore {
         requireVersion(version);
         requireNotNegative(i);
         int left = i;
-        for (int k = 0; k < lengthOfVersion(version); k++) {
+        int length = lengthOfVersion(version);
+        for (int k = 0; k < length; k++) {
             int block = versions.at(version, k);
             if (left < blocks.length(block)) {
                 return blocks.at(block, left);
@@ -307,9 +312,10 @@ public final class BoardStore {
     }
 
     private int removeUnheldBlocks() {
+        markHeldBlocks();
         int gone = 0;
         for (int block = 0; block < blocks.count(); block++) {
-            if (there.isOn(block) && !isHeld(block)) {
+            if (there.isOn(block) && !held.isOn(block)) {
                 there.turnOff(block);
                 gone++;
             }
@@ -317,18 +323,20 @@ public final class BoardStore {
         return gone;
     }
 
-    private boolean isHeld(int block) {
+    private void markHeldBlocks() {
+        held.clear();
         // Up to the count itself: the open version holds its blocks, too.
         for (int version = 0; version <= versions.count(); version++) {
-            if (hasBlock(version, block)) {
-                return true;
+            int length = lengthOfVersion(version);
+            for (int k = 0; k < length; k++) {
+                held.turnOn(versions.at(version, k));
             }
         }
-        return false;
     }
 
     private boolean hasBlock(int version, int block) {
-        for (int k = 0; k < lengthOfVersion(version); k++) {
+        int length = lengthOfVersion(version);
+        for (int k = 0; k < length; k++) {
             if (versions.at(version, k) == block) {
                 return true;
             }
@@ -355,9 +363,10 @@ public final class BoardStore {
     }
 
     private void addToOpenPack(int block) {
+        int length = blocks.length(block);
         packs.add(block);
-        packs.add(blocks.length(block));
-        for (int i = 0; i < blocks.length(block); i++) {
+        packs.add(length);
+        for (int i = 0; i < length; i++) {
             packs.add(blocks.at(block, i));
         }
         packed.turnOn(block);
@@ -486,13 +495,14 @@ public final class BoardStore {
     /** Numbered pieces of one row of numbers; behind the closed ones lies the open one, which still grows. */
     private static final class Pieces {
         private final int[] items;
-        private final int[] ends;
+        // One more than may be closed, for the open one.
+        private final int[] starts;
         private int size = 0;
         private int count = 0;
 
         Pieces(int most, int room) {
             this.items = new int[Math.max(0, room)];
-            this.ends = new int[Math.max(0, most)];
+            this.starts = new int[Math.max(0, most) + 1];
         }
 
         int count() {
@@ -500,7 +510,7 @@ public final class BoardStore {
         }
 
         int stillFree() {
-            return ends.length - count;
+            return starts.length - 1 - count;
         }
 
         boolean isFull() {
@@ -512,22 +522,26 @@ public final class BoardStore {
         }
 
         int length(int piece) {
-            return piece >= 0 && piece <= count ? endOf(piece) - startOf(piece) : 0;
+            if (piece < 0 || piece > count || piece >= starts.length) {
+                return 0;
+            }
+            int end = piece < count && piece + 1 < starts.length ? starts[piece + 1] : size;
+            return end - starts[piece];
         }
 
         int at(int piece, int i) {
-            if (i < 0 || i >= length(piece)) {
+            if (piece < 0 || piece >= starts.length || i < 0 || i >= length(piece)) {
                 return NONE;
             }
-            int place = startOf(piece) + i;
+            int place = starts[piece] + i;
             return place >= 0 && place < items.length ? items[place] : NONE;
         }
 
         void put(int piece, int i, int item) {
-            if (i < 0 || i >= length(piece)) {
+            if (piece < 0 || piece >= starts.length || i < 0 || i >= length(piece)) {
                 return;
             }
-            int place = startOf(piece) + i;
+            int place = starts[piece] + i;
             if (place >= 0 && place < items.length) {
                 items[place] = item;
             }
@@ -550,16 +564,16 @@ public final class BoardStore {
 
         /** The number of the piece that was open; NONE, and it stays open, when no more may be closed. */
         int close() {
-            if (count < 0 || count >= ends.length) {
+            if (count < 0 || count >= starts.length - 1) {
                 return NONE;
             }
-            ends[count] = size;
             count++;
+            starts[count] = size;
             return count - 1;
         }
 
         void clearOpen() {
-            size = startOf(count);
+            size -= openLength();
         }
 
         void clear() {
@@ -568,10 +582,11 @@ public final class BoardStore {
         }
 
         boolean equalsOpen(int piece) {
-            if (length(piece) != openLength()) {
+            int length = openLength();
+            if (length(piece) != length) {
                 return false;
             }
-            for (int i = 0; i < openLength(); i++) {
+            for (int i = 0; i < length; i++) {
                 if (at(piece, i) != openAt(i)) {
                     return false;
                 }
@@ -587,14 +602,6 @@ public final class BoardStore {
                 sum = nextSum(sum, at(piece, i));
             }
             return sum;
-        }
-
-        private int startOf(int piece) {
-            return piece >= 1 && piece <= ends.length ? ends[piece - 1] : 0;
-        }
-
-        private int endOf(int piece) {
-            return piece >= 0 && piece < count && piece < ends.length ? ends[piece] : size;
         }
     }
 
