@@ -40,12 +40,14 @@ final class Due {
         same(what, "throws.IllegalArgumentException", answer(call));
     }
 
-    void same(String what, String want, String got) {
+    boolean same(String what, String want, String got) {
         calls++;
-        if (!got.equals(want)) {
-            wrong++;
-            System.out.println(part + ": " + what + " answered " + got + ", due is " + want);
+        if (got.equals(want)) {
+            return true;
         }
+        wrong++;
+        System.out.println(part + ": " + what + " answered " + got + ", due is " + want);
+        return false;
     }
 
     void end() {

@@ -47,8 +47,12 @@ public final class ModelTest {
             int a = argument(random, call, alphabet, model, false);
             int b = argument(random, call, alphabet, model, true);
             int c = random.nextInt(10) == 0 ? 256 * random.nextInt(3) : random.nextInt();
-            due.same("call " + n + ", " + call + "(" + a + ", " + b + ", " + c + ")",
+            boolean same = due.same("call " + n + ", " + call + "(" + a + ", " + b + ", " + c + ")",
                     Due.answer(() -> ask(model, call, a, b, c)), Due.answer(() -> ask(store, call, a, b, c)));
+            if (!same) {
+                // Behind the first difference the two states differ, and what follows tells nothing new.
+                return;
+            }
         }
     }
 
