@@ -15,6 +15,10 @@ final class Due {
         part = name;
     }
 
+    int answers() {
+        return calls;
+    }
+
     /** A boolean is told as true or false, an exception as throws.ItsName, so that all answers compare alike. */
     static String answer(Supplier<Object> call) {
         try {

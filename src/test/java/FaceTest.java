@@ -37,6 +37,9 @@ public final class FaceTest {
         int modifiers = BoardStore.class.getModifiers();
         due.is("public and final", true, () -> Modifier.isPublic(modifiers) && Modifier.isFinal(modifiers));
         due.is("all visible members are public", true, FaceTest::allVisiblePublic);
+        due.is("no method of the face is static", true, FaceTest::noVisibleMethodStatic);
+        due.is("NONE is static and final", true, FaceTest::noneIsConstant);
+        due.is("classes inside are static, and private or package-visible", true, FaceTest::classesInsideAreHidden);
         due.end();
     }
 
@@ -63,11 +66,40 @@ public final class FaceTest {
 
     private static boolean allVisiblePublic() {
         boolean all = true;
+        for (Constructor<?> c : BoardStore.class.getDeclaredConstructors()) {
+            all &= Modifier.isPrivate(c.getModifiers()) || Modifier.isPublic(c.getModifiers());
+        }
         for (Method m : BoardStore.class.getDeclaredMethods()) {
             all &= m.isSynthetic() || Modifier.isPrivate(m.getModifiers()) || Modifier.isPublic(m.getModifiers());
         }
         for (Field f : BoardStore.class.getDeclaredFields()) {
             all &= f.isSynthetic() || Modifier.isPrivate(f.getModifiers()) || Modifier.isPublic(f.getModifiers());
+        }
+        return all;
+    }
+
+    private static boolean noVisibleMethodStatic() {
+        boolean all = true;
+        for (Method m : BoardStore.class.getDeclaredMethods()) {
+            all &= Modifier.isPrivate(m.getModifiers()) || m.isSynthetic() || !Modifier.isStatic(m.getModifiers());
+        }
+        return all;
+    }
+
+    private static boolean noneIsConstant() {
+        for (Field f : BoardStore.class.getDeclaredFields()) {
+            if (f.getName().equals("NONE")) {
+                return Modifier.isStatic(f.getModifiers()) && Modifier.isFinal(f.getModifiers());
+            }
+        }
+        return false;
+    }
+
+    private static boolean classesInsideAreHidden() {
+        boolean all = true;
+        for (Class<?> inside : BoardStore.class.getDeclaredClasses()) {
+            int modifiers = inside.getModifiers();
+            all &= Modifier.isStatic(modifiers) && !Modifier.isPublic(modifiers) && !Modifier.isProtected(modifiers);
         }
         return all;
     }

@@ -1,7 +1,6 @@
 /** A part for each promise of the document: ordinary inputs, the edges it names, and wrong inputs. */
 public final class PromisesTest {
     private static final Due DUE = new Due("PromisesTest");
-    private static final int MOST_LOG = 400;
 
     public static void main(String[] args) {
         newObject();
@@ -28,31 +27,6 @@ public final class PromisesTest {
         DUE.end();
     }
 
-    /** Feeds the bytes and makes a block of them; the block's number. */
-    private static int put(BoardStore s, int... bytes) {
-        for (int b : bytes) {
-            s.feed(b);
-        }
-        return s.block();
-    }
-
-    private static void feedMany(BoardStore s, int b, int times) {
-        for (int i = 0; i < times; i++) {
-            s.feed(b);
-        }
-    }
-
-    /** The document's sum in long arithmetic, unlike the class's own. */
-    private static long sum(int... bytes) {
-        long s = 1;
-        for (int b : bytes) {
-            long x = s ^ b;
-            long turned = (x >> 1) + (x % 2) * 0x80000000L;
-            s = (turned * 0xC2B2AE35L) & 0xFFFFFFFFL;
-        }
-        return s;
-    }
-
     private static void newObject() {
         DUE.part("promise 1");
         int[][] packsAndLimits = {
@@ -60,13 +34,13 @@ public final class PromisesTest {
         for (int[] row : packsAndLimits) {
             BoardStore s = new BoardStore(row[0]);
             for (int p = 0; p < row[1]; p++) {
-                put(s, p);
+                Stores.put(s, p);
                 DUE.is("pack " + p + " of " + row[0], row[1] - p - 1, s::pack);
                 if (s.version() < 0) {
                     DUE.same("version", "a number", "NONE");
                 }
             }
-            put(s, 99);
+            Stores.put(s, 99);
             DUE.is("a pack too many of " + row[0], -1, s::pack);
         }
         BoardStore s = new BoardStore(3);
@@ -112,24 +86,24 @@ public final class PromisesTest {
         BoardStore s = new BoardStore(1);
         DUE.is("an empty block", 0, s::block);
         DUE.is("an empty block again", 0, s::block);
-        DUE.is("a new one", 1, () -> put(s, 1, 2));
-        DUE.is("the same bytes", 1, () -> put(s, 1, 2));
-        DUE.is("its beginning alone", 2, () -> put(s, 1));
-        DUE.is("longer", 3, () -> put(s, 1, 2, 3));
-        DUE.is("another order", 4, () -> put(s, 2, 1));
+        DUE.is("a new one", 1, () -> Stores.put(s, 1, 2));
+        DUE.is("the same bytes", 1, () -> Stores.put(s, 1, 2));
+        DUE.is("its beginning alone", 2, () -> Stores.put(s, 1));
+        DUE.is("longer", 3, () -> Stores.put(s, 1, 2, 3));
+        DUE.is("another order", 4, () -> Stores.put(s, 2, 1));
         DUE.is("what was fed is none again", 0, s::block);
-        DUE.is("a ninth of the version", -1, () -> put(s, 9));
+        DUE.is("a ninth of the version", -1, () -> Stores.put(s, 9));
         DUE.is("a ninth that is old", -1, s::block);
         DUE.is("version()", 0, s::version);
         DUE.is("what was fed stayed", 5, s::block);
         DUE.is("byteAt(5, 0)", 9, () -> s.byteAt(5, 0));
         DUE.is("byteAt(5, 1)", -1, () -> s.byteAt(5, 1));
         DUE.is("drop(0)", true, () -> s.drop(0));
-        DUE.is("dropped but there", 1, () -> put(s, 1, 2));
+        DUE.is("dropped but there", 1, () -> Stores.put(s, 1, 2));
         DUE.is("sweep()", 4, s::sweep);
-        DUE.is("a swept one gets a new number", 6, () -> put(s, 2, 1));
+        DUE.is("a swept one gets a new number", 6, () -> Stores.put(s, 2, 1));
         DUE.is("a swept empty one, too", 7, s::block);
-        DUE.is("one that the open version kept", 1, () -> put(s, 1, 2));
+        DUE.is("one that the open version kept", 1, () -> Stores.put(s, 1, 2));
     }
 
     private static void blockEdges() {
@@ -137,14 +111,14 @@ public final class PromisesTest {
         BoardStore s = new BoardStore(1);
         for (int n = 0; n < 24; n++) {
             int b = n;
-            DUE.is("block " + n, n, () -> put(s, b));
+            DUE.is("block " + n, n, () -> Stores.put(s, b));
             if (n % 8 == 7) {
                 DUE.is("version " + n / 8, n / 8, s::version);
             }
         }
-        DUE.is("a 25th block", -1, () -> put(s, 24));
+        DUE.is("a 25th block", -1, () -> Stores.put(s, 24));
         DUE.is("what was fed stays", -1, s::block);
-        DUE.is("feed goes on behind it", -1, () -> put(s, 25));
+        DUE.is("feed goes on behind it", -1, () -> Stores.put(s, 25));
         DUE.badIndex("no block had the number 24", () -> s.byteAt(24, 0));
         DUE.is("drop(0)", true, () -> s.drop(0));
         DUE.is("sweep()", 8, s::sweep);
@@ -154,13 +128,13 @@ public final class PromisesTest {
         DUE.is("crash(78)", false, () -> s.crash(78));
         DUE.is("reopen()", 3, s::reopen);
         DUE.is("what was fed is gone; an empty 25th", -1, s::block);
-        DUE.is("an old one when there are 24", 23, () -> put(s, 23));
+        DUE.is("an old one when there are 24", 23, () -> Stores.put(s, 23));
     }
 
     private static void version() {
         DUE.part("promise 4");
         BoardStore s = new BoardStore(1);
-        put(s, 5);
+        Stores.put(s, 5);
         for (int v = 0; v < 12; v++) {
             DUE.is("version " + v, v, s::version);
         }
@@ -168,27 +142,27 @@ public final class PromisesTest {
         DUE.badIndex("the open one has no number", () -> s.root(12));
         DUE.is("the first has the block", true, () -> s.holds(0, 0));
         DUE.is("the second is empty", false, () -> s.holds(1, 0));
-        DUE.is("blocks of the open one still come", 1, () -> put(s, 6));
+        DUE.is("blocks of the open one still come", 1, () -> Stores.put(s, 6));
         DUE.is("drop(0)", true, () -> s.drop(0));
         DUE.is("a dropped one counts", -1, s::version);
         DUE.is("sweep() leaves the open one's", 1, s::sweep);
         DUE.is("byteAt(1, 0)", 6, () -> s.byteAt(1, 0));
         for (int n = 0; n < 7; n++) {
-            DUE.is("old one " + n, 1, () -> put(s, 6));
+            DUE.is("old one " + n, 1, () -> Stores.put(s, 6));
         }
-        DUE.is("a ninth", -1, () -> put(s, 6));
+        DUE.is("a ninth", -1, () -> Stores.put(s, 6));
     }
 
     private static void holds() {
         DUE.part("promise 5");
         BoardStore s = new BoardStore(1);
-        put(s, 1);
-        put(s, 2);
+        Stores.put(s, 1);
+        Stores.put(s, 2);
         s.version();
-        put(s, 2);
-        put(s, 3);
+        Stores.put(s, 2);
+        Stores.put(s, 3);
         s.version();
-        put(s, 4);
+        Stores.put(s, 4);
         boolean[][] want = {{true, true, false, false}, {false, true, true, false}};
         for (int v = 0; v < 2; v++) {
             for (int b = 0; b < 4; b++) {
@@ -214,39 +188,39 @@ public final class PromisesTest {
     private static void root() {
         DUE.part("promise 6");
         BoardStore s = new BoardStore(1);
-        put(s, 65, 66);
-        put(s, 65, 66);
-        put(s, 67);
+        Stores.put(s, 65, 66);
+        Stores.put(s, 65, 66);
+        Stores.put(s, 67);
         s.version();
         s.version();
-        put(s);
-        put(s, 255, 0, 128);
+        Stores.put(s);
+        Stores.put(s, 255, 0, 128);
         s.version();
-        put(s, 67);
-        put(s, 65, 66);
+        Stores.put(s, 67);
+        Stores.put(s, 65, 66);
         s.version();
         DUE.is("root(0)", 294496611, () -> s.root(0));
-        DUE.is("root(0), anew", (int) sum(65, 66, 65, 66, 67), () -> s.root(0));
+        DUE.is("root(0), anew", (int) Stores.sum(65, 66, 65, 66, 67), () -> s.root(0));
         DUE.is("an empty one", 1, () -> s.root(1));
-        DUE.is("root(2)", (int) sum(255, 0, 128), () -> s.root(2));
-        DUE.is("another order", (int) sum(67, 65, 66), () -> s.root(3));
+        DUE.is("root(2)", (int) Stores.sum(255, 0, 128), () -> s.root(2));
+        DUE.is("another order", (int) Stores.sum(67, 65, 66), () -> s.root(3));
         for (int bad : new int[] {-1, 4, 12, Integer.MAX_VALUE, Integer.MIN_VALUE}) {
             DUE.badIndex("root(" + bad + ")", () -> s.root(bad));
         }
         s.drop(0);
         DUE.is("a dropped one", 1, () -> s.root(0));
         s.sweep();
-        DUE.is("the others stay", (int) sum(67, 65, 66), () -> s.root(3));
+        DUE.is("the others stay", (int) Stores.sum(67, 65, 66), () -> s.root(3));
     }
 
     private static void sweep() {
         DUE.part("promise 7");
         BoardStore s = new BoardStore(2);
         DUE.is("of nothing", 0, s::sweep);
-        put(s, 1);
-        put(s, 2);
+        Stores.put(s, 1);
+        Stores.put(s, 2);
         s.version();
-        put(s, 2);
+        Stores.put(s, 2);
         DUE.is("all are held", 0, s::sweep);
         s.drop(0);
         DUE.is("byteAt(0, 0) ahead", 1, () -> s.byteAt(0, 0));
@@ -275,24 +249,24 @@ public final class PromisesTest {
         DUE.is("a block of the open version", 2, s::pack);
         DUE.is("all are in a pack", -1, s::pack);
         s.version();
-        put(s, 1);
+        Stores.put(s, 1);
         s.drop(0);
         s.sweep();
-        put(s, 2);
+        Stores.put(s, 2);
         DUE.is("two more", 1, s::pack);
         DUE.is("how many", 2, () -> s.packByte(1, 0));
         DUE.is("a number", 1, () -> s.packByte(1, 1));
         DUE.is("the next number", 2, () -> s.packByte(1, 4));
-        put(s, 3);
+        Stores.put(s, 3);
         s.version();
         s.drop(1);
         s.sweep();
         DUE.is("swept ones are not packed", -1, s::pack);
-        put(s, 4);
+        Stores.put(s, 4);
         DUE.is("the last", 0, s::pack);
         DUE.is("only the one that is there", 1, () -> s.packByte(2, 0));
         DUE.is("its number", 4, () -> s.packByte(2, 1));
-        put(s, 5);
+        Stores.put(s, 5);
         DUE.is("none may be", -1, s::pack);
         DUE.badIndex("no fourth pack", () -> s.packByte(3, 0));
     }
@@ -300,8 +274,8 @@ public final class PromisesTest {
     private static void byteAt() {
         DUE.part("promise 9");
         BoardStore s = new BoardStore(1);
-        put(s, 10, 0, 255);
-        put(s);
+        Stores.put(s, 10, 0, 255);
+        Stores.put(s);
         DUE.is("byteAt(0, 0)", 10, () -> s.byteAt(0, 0));
         DUE.is("byteAt(0, 1)", 0, () -> s.byteAt(0, 1));
         DUE.is("byteAt(0, 2)", 255, () -> s.byteAt(0, 2));
@@ -326,7 +300,7 @@ public final class PromisesTest {
     private static void crash() {
         DUE.part("promise 10");
         BoardStore s = new BoardStore(1);
-        put(s, 1);
+        Stores.put(s, 1);
         for (int bad : new int[] {-1, 4, 400, Integer.MAX_VALUE, Integer.MIN_VALUE}) {
             DUE.badArgument("crash(" + bad + ")", () -> s.crash(bad));
         }
@@ -345,15 +319,15 @@ public final class PromisesTest {
 
     private static BoardStore story() {
         BoardStore s = new BoardStore(2);
-        put(s, 1, 2);
-        put(s, 3);
+        Stores.put(s, 1, 2);
+        Stores.put(s, 3);
         s.version();
-        put(s, 3);
-        put(s);
+        Stores.put(s, 3);
+        Stores.put(s);
         s.version();
         s.drop(0);
         s.sweep();
-        put(s, 4);
+        Stores.put(s, 4);
         s.pack();
         s.feed(9);
         return s;
@@ -372,17 +346,17 @@ public final class PromisesTest {
         DUE.is("not swept", 3, () -> s.byteAt(1, 0));
         DUE.is("root(0)", 1, () -> s.root(0));
         DUE.is("drop(0)", false, () -> s.drop(0));
-        DUE.is("root(1)", (int) sum(3), () -> s.root(1));
+        DUE.is("root(1)", (int) Stores.sum(3), () -> s.root(1));
         DUE.is("holds(1, 2)", true, () -> s.holds(1, 2));
         DUE.is("an empty one was fed", 2, s::block);
         DUE.is("all may be packed again", 1, s::pack);
         DUE.is("three of them", 3, () -> s.packByte(0, 0));
-        DUE.is("the numbers go on", 4, () -> put(s, 1, 2));
+        DUE.is("the numbers go on", 4, () -> Stores.put(s, 1, 2));
         DUE.is("version()", 2, s::version);
         DUE.is("the open one came back", true, () -> s.holds(2, 3));
         s.crash(0);
         DUE.is("from nothing", 0, s::reopen);
-        DUE.is("numbers from the beginning", 0, () -> put(s, 77));
+        DUE.is("numbers from the beginning", 0, () -> Stores.put(s, 77));
         DUE.is("version numbers, too", 0, s::version);
         DUE.is("packs, too", 1, s::pack);
     }
@@ -416,7 +390,7 @@ public final class PromisesTest {
     private static void poke() {
         DUE.part("promise 12");
         BoardStore s = new BoardStore(2);
-        put(s, 1, 2);
+        Stores.put(s, 1, 2);
         s.pack();
         DUE.is("poke(0, 3, 255)", true, () -> s.poke(0, 3, 255));
         DUE.is("it is altered", 254, () -> s.packByte(0, 3));
@@ -446,7 +420,7 @@ public final class PromisesTest {
         BoardStore s = new BoardStore(3);
         DUE.is("no packs", -1, s::badAt);
         for (int p = 0; p < 3; p++) {
-            put(s, p, 7);
+            Stores.put(s, p, 7);
             s.pack();
         }
         DUE.is("all are good", -1, s::badAt);
@@ -470,9 +444,9 @@ public final class PromisesTest {
 
     private static BoardStore packsOfTwo() {
         BoardStore s = new BoardStore(2);
-        put(s, 3, 4);
+        Stores.put(s, 3, 4);
         s.pack();
-        put(s, 5, 6);
+        Stores.put(s, 5, 6);
         s.pack();
         return s;
     }
@@ -480,23 +454,31 @@ public final class PromisesTest {
     private static void packByte() {
         DUE.part("promise 14");
         BoardStore s = new BoardStore(2);
-        put(s, 200, 0);
-        put(s);
+        Stores.put(s, 200, 0);
+        Stores.put(s);
         s.pack();
-        put(s, 9);
+        Stores.put(s, 9);
         s.pack();
-        packIs(s, 0, 2, 0, 2, 200, 0, 1, 0);
-        packIs(s, 1, 1, 2, 1, 9);
+        Stores.packIs(DUE, s, 0, 2, 0, 2, 200, 0, 1, 0);
+        Stores.packIs(DUE, s, 1, 1, 2, 1, 9);
         for (int bad : new int[] {-1, 2, 8, Integer.MAX_VALUE, Integer.MIN_VALUE}) {
             DUE.badIndex("pack " + bad, () -> s.packByte(bad, 0));
         }
-        largestPack();
+        largePack();
     }
 
-    /** The blocks of three versions, as many bytes as the log takes. */
-    private static void largestPack() {
-        BoardStore s = new BoardStore(1);
+    /** 24 blocks of 14 bytes; 364 calls make the pack, so that one object has 148 left of its 512 to read it. */
+    private static void largePack() {
         int[] want = new int[1 + 24 * 2 + 24 * 14];
+        for (int first = 0; first < want.length + 4; first += 148) {
+            BoardStore s = new BoardStore(1);
+            feed24Blocks(s, want);
+            DUE.is("pack()", 0, s::pack);
+            Stores.partOfPackIs(DUE, s, 0, first, first + 148, want);
+        }
+    }
+
+    private static void feed24Blocks(BoardStore s, int[] want) {
         want[0] = 24;
         int at = 1;
         for (int n = 0; n < 24; n++) {
@@ -511,31 +493,17 @@ public final class PromisesTest {
                 s.version();
             }
         }
-        DUE.is("pack()", 0, s::pack);
-        packIs(s, 0, want);
-    }
-
-    private static void packIs(BoardStore s, int pack, int... ahead) {
-        long sum = sum(ahead);
-        for (int i = 0; i < ahead.length + 4; i++) {
-            int at = i;
-            long want = i < ahead.length ? ahead[i] : (sum >> (8 * (3 - (i - ahead.length)))) % 256;
-            DUE.is("packByte(" + pack + ", " + i + ")", want, () -> s.packByte(pack, at));
-        }
-        for (int bad : new int[] {-1, ahead.length + 4, Integer.MAX_VALUE, Integer.MIN_VALUE}) {
-            DUE.badIndex("byte " + bad + " of pack " + pack, () -> s.packByte(pack, bad));
-        }
     }
 
     private static void digest() {
         DUE.part("promise 15");
         BoardStore s = new BoardStore(1);
-        put(s, 65, 66);
-        put(s);
-        put(s, 255, 254, 0);
-        digestIs(s, 0, sum(65, 66));
+        Stores.put(s, 65, 66);
+        Stores.put(s);
+        Stores.put(s, 255, 254, 0);
+        digestIs(s, 0, Stores.sum(65, 66));
         digestIs(s, 1, 1);
-        digestIs(s, 2, sum(255, 254, 0));
+        digestIs(s, 2, Stores.sum(255, 254, 0));
         DUE.is("digest(0, 0)", 221, () -> s.digest(0, 0));
         DUE.is("digest(0, 3)", 101, () -> s.digest(0, 3));
         for (int bad : new int[] {-1, 4, Integer.MAX_VALUE, Integer.MIN_VALUE}) {
@@ -546,7 +514,7 @@ public final class PromisesTest {
         }
         s.version();
         s.drop(0);
-        digestIs(s, 0, sum(65, 66));
+        digestIs(s, 0, Stores.sum(65, 66));
         s.sweep();
         DUE.is("not there", -1, () -> s.digest(0, 0));
         DUE.badIndex("not there, a wrong byte", () -> s.digest(0, 4));
@@ -562,11 +530,11 @@ public final class PromisesTest {
     private static void out() {
         DUE.part("promise 16");
         BoardStore s = new BoardStore(1);
-        put(s);
-        put(s, 1, 2);
-        put(s);
-        put(s, 3);
-        put(s, 1, 2);
+        Stores.put(s);
+        Stores.put(s, 1, 2);
+        Stores.put(s);
+        Stores.put(s, 3);
+        Stores.put(s, 1, 2);
         s.version();
         s.version();
         int[] want = {1, 2, 3, 1, 2, -1};
@@ -589,10 +557,10 @@ public final class PromisesTest {
     private static void drop() {
         DUE.part("promise 17");
         BoardStore s = new BoardStore(1);
-        put(s, 1);
+        Stores.put(s, 1);
         DUE.badIndex("the open one", () -> s.drop(0));
         s.version();
-        put(s, 1);
+        Stores.put(s, 1);
         s.version();
         for (int bad : new int[] {-1, 2, 12, Integer.MAX_VALUE, Integer.MIN_VALUE}) {
             DUE.badIndex("drop(" + bad + ")", () -> s.drop(bad));
@@ -608,35 +576,16 @@ public final class PromisesTest {
         DUE.is("crash(12)", false, () -> s.crash(12));
     }
 
-    /** A store whose log has so many bytes, with one closed version that has blocks 0 and 1, of byte 0 and of none. */
-    private static BoardStore withLog(int bytes) {
-        BoardStore s = new BoardStore(1);
-        put(s, 0);
-        put(s);
-        s.version();
-        int used = 6;
-        for (int n = 0; n < 3; n++) {
-            feedMany(s, 100 + n, 24);
-            s.block();
-            used += 26;
-        }
-        while (used < bytes) {
-            s.sweep();
-            used++;
-        }
-        return s;
-    }
-
     private static void fullLog() {
         DUE.part("a full log");
-        BoardStore s = withLog(MOST_LOG);
+        BoardStore s = Stores.withLog(Stores.MOST_LOG);
         DUE.is("a sweep", 0, s::sweep);
         DUE.is("a version", -1, s::version);
         DUE.is("a drop", false, () -> s.drop(0));
         DUE.is("the version is not dropped", 0, () -> s.out(0, 0));
         DUE.badIndex("no such version, even so", () -> s.drop(1));
         DUE.is("an old block", -1, s::block);
-        DUE.is("a new block", -1, () -> put(s, 55));
+        DUE.is("a new block", -1, () -> Stores.put(s, 55));
         DUE.is("a pack is no act", 0, s::pack);
         DUE.is("feed is none either", true, () -> s.feed(1));
         DUE.badArgument("at most 400", () -> s.crash(401));
@@ -644,32 +593,32 @@ public final class PromisesTest {
         DUE.is("reopen()", 1, s::reopen);
         DUE.is("it is still full", -1, s::version);
 
-        BoardStore swept = withLog(399);
+        BoardStore swept = Stores.withLog(399);
         DUE.is("room for one byte: no drop", false, () -> swept.drop(0));
         DUE.is("no old block", -1, swept::block);
-        DUE.is("no new block", -1, () -> put(swept, 9));
+        DUE.is("no new block", -1, () -> Stores.put(swept, 9));
         DUE.is("but a version", 1, swept::version);
         DUE.is("and no more", -1, swept::version);
 
-        BoardStore dropped = withLog(398);
-        DUE.is("room for two: no block of one byte", -1, () -> put(dropped, 9));
+        BoardStore dropped = Stores.withLog(398);
+        DUE.is("room for two: no block of one byte", -1, () -> Stores.put(dropped, 9));
         DUE.is("but a drop", true, () -> dropped.drop(0));
         DUE.is("the sweep is not done", 0, dropped::sweep);
         DUE.is("its blocks are still there", 0, () -> dropped.byteAt(0, 0));
 
-        BoardStore old = withLog(398);
+        BoardStore old = Stores.withLog(398);
         DUE.is("room for two: an old block", 1, old::block);
         DUE.is("no more room", 0, old::sweep);
         DUE.badArgument("400 bytes", () -> old.crash(401));
 
-        BoardStore last = withLog(397);
-        DUE.is("room for three: no block of two bytes", -1, () -> put(last, 9, 8));
+        BoardStore last = Stores.withLog(397);
+        DUE.is("room for three: no block of two bytes", -1, () -> Stores.put(last, 9, 8));
         DUE.is("what was fed stays", -1, last::block);
-        BoardStore fits = withLog(397);
-        DUE.is("a block of one byte", 5, () -> put(fits, 9));
+        BoardStore fits = Stores.withLog(397);
+        DUE.is("a block of one byte", 5, () -> Stores.put(fits, 9));
         DUE.is("crash(400)", false, () -> fits.crash(400));
 
-        BoardStore one = withLog(399);
+        BoardStore one = Stores.withLog(399);
         one.crash(399);
         one.reopen();
         DUE.is("a sweep fits", 0, one::sweep);
