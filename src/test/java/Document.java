@@ -52,7 +52,7 @@ final class Document {
         return new String(left).replaceAll("[^\\p{L}\\p{N}]+", " ").trim();
     }
 
-    private String text(String heading) {
+    String text(String heading) {
         return sections.containsKey(heading) ? sections.get(heading).toString() : "";
     }
 }

@@ -1,38 +1,26 @@
+import java.io.IOException;
 import java.lang.reflect.Constructor;
 import java.lang.reflect.Field;
 import java.lang.reflect.Method;
 import java.lang.reflect.Modifier;
 import java.util.Arrays;
 import java.util.TreeSet;
+import java.util.regex.Matcher;
+import java.util.regex.Pattern;
 import java.util.stream.Collectors;
 
 /** The class has the document's face and no other member that a caller could see. */
 public final class FaceTest {
-    private static final String[] FACE = {
-        "BoardStore(int)",
-        "boolean feed(int) IllegalStateException",
-        "int block() IllegalStateException",
-        "int version() IllegalStateException",
-        "boolean holds(int,int) IndexOutOfBoundsException IllegalStateException",
-        "int root(int) IndexOutOfBoundsException IllegalStateException",
-        "int sweep() IllegalStateException",
-        "int pack() IllegalStateException",
-        "int byteAt(int,int) IndexOutOfBoundsException IllegalStateException",
-        "boolean crash(int) IllegalArgumentException IllegalStateException",
-        "int reopen() IllegalStateException",
-        "boolean poke(int,int,int) IndexOutOfBoundsException IllegalStateException",
-        "int badAt() IllegalStateException",
-        "int packByte(int,int) IndexOutOfBoundsException IllegalStateException",
-        "int digest(int,int) IndexOutOfBoundsException IllegalStateException",
-        "int out(int,int) IndexOutOfBoundsException IllegalStateException",
-        "boolean drop(int) IndexOutOfBoundsException IllegalStateException",
-        "int NONE",
-    };
+    private static final int MEMBERS = 18;
+    private static final Pattern CONSTANT = Pattern.compile("public static final (\\w+ \\w+) = .*;");
+    private static final Pattern CALL = Pattern.compile("public ([\\w ]+)\\(([^)]*)\\)(.*);");
 
-    public static void main(String[] args) {
+    public static void main(String[] args) throws IOException {
         Due due = new Due("FaceTest");
         due.part("face");
-        due.same("members", new TreeSet<>(Arrays.asList(FACE)).toString(), visibleMembers().toString());
+        TreeSet<String> face = membersOfDocument(new Document());
+        due.is("how many members the document shows", MEMBERS, face::size);
+        due.same("members", face.toString(), visibleMembers().toString());
         due.is("NONE", -1, () -> BoardStore.NONE);
         int modifiers = BoardStore.class.getModifiers();
         due.is("public and final", true, () -> Modifier.isPublic(modifiers) && Modifier.isFinal(modifiers));
@@ -41,6 +29,22 @@ public final class FaceTest {
         due.is("NONE is static and final", true, FaceTest::noneIsConstant);
         due.is("classes inside are static, and private or package-visible", true, FaceTest::classesInsideAreHidden);
         due.end();
+    }
+
+    private static TreeSet<String> membersOfDocument(Document document) {
+        TreeSet<String> shown = new TreeSet<>();
+        for (String line : document.text("The public face").split("\n")) {
+            Matcher constant = CONSTANT.matcher(line.trim());
+            Matcher call = CALL.matcher(line.trim());
+            if (constant.matches()) {
+                shown.add(constant.group(1));
+            } else if (call.matches()) {
+                // The names of the parameters, and the words that a class file does not keep, are left out.
+                shown.add(call.group(1) + "(" + call.group(2).replaceAll(" \\w+(, )?", ",").replaceAll(",$", "") + ")"
+                        + call.group(3).replace(" throws", "").replace(",", ""));
+            }
+        }
+        return shown;
     }
 
     private static TreeSet<String> visibleMembers() {

@@ -1,63 +1,8 @@
 import java.util.Arrays;
-import java.util.Set;
 
-/** The sentences of "What it is" and "Terms". */
+/** The sentences of "Terms". */
 final class SentencesOfTerms {
-    private static final Set<String> THROWN_BY_THE_FACE = Set.of("throws.IllegalStateException",
-            "throws.IndexOutOfBoundsException", "throws.IllegalArgumentException");
-
     private SentencesOfTerms() {
-    }
-
-    @Sentence(of = "What it is", words = "An object is used for at most 512 calls after it has been made")
-    static void whatItIs_the512thCallIsAnsweredAsDue(Due due) {
-        BoardStore s = new BoardStore(1);
-        for (int n = 1; n <= 505; n++) {
-            due.is("call " + n, -1, s::badAt);
-        }
-        due.is("call 506", true, () -> s.feed(7));
-        due.is("call 507", 0, s::block);
-        due.is("call 508", 0, s::version);
-        due.is("call 509", 0, s::pack);
-        due.is("call 510", 7, () -> s.out(0, 0));
-        due.is("call 511", false, () -> s.crash(4));
-        due.is("call 512", 1, s::reopen);
-    }
-
-    @Sentence(of = "What it is", words = "what later calls answer is free")
-    static void whatItIs_laterCallsEndAndThrowNothingButWhatTheFaceNames(Due due) {
-        BoardStore s = new BoardStore(8);
-        for (int n = 1; n <= 20000; n++) {
-            int a = n % 13 == 0 ? -n : n % 7;
-            int b = n % 17 == 0 ? Integer.MAX_VALUE : n % 29;
-            int kind = n % 97 == 0 ? 8 : n * 31 / 5 % 16;
-            String answer = Due.answer(() -> call(s, kind, a, b));
-            if (n > 512) {
-                due.is("call " + n + " throws no other", true,
-                        () -> !answer.startsWith("throws.") || THROWN_BY_THE_FACE.contains(answer));
-            }
-        }
-    }
-
-    private static Object call(BoardStore s, int kind, int a, int b) {
-        switch (kind) {
-            case 0: return s.feed(b);
-            case 1: return s.block();
-            case 2: return s.version();
-            case 3: return s.holds(a, b);
-            case 4: return s.root(a);
-            case 5: return s.sweep();
-            case 6: return s.pack();
-            case 7: return s.byteAt(a, b);
-            case 8: return s.crash(b);
-            case 9: return s.reopen();
-            case 10: return s.poke(a, b, b);
-            case 11: return s.badAt();
-            case 12: return s.packByte(a, b);
-            case 13: return s.digest(a, b);
-            case 14: return s.out(a, b);
-            default: return s.drop(a);
-        }
     }
 
     @Sentence(of = "Terms", words = "A BLOCK is 0 to 24 bytes.")
@@ -574,8 +519,8 @@ final class SentencesOfTerms {
         for (int kind = 0; kind < 16; kind++) {
             int which = kind;
             if (kind != 9) {
-                due.badState("call " + kind + " with arguments that were right", () -> call(s, which, 0, 0));
-                due.badState("call " + kind + " with wrong ones", () -> call(s, which, -1, -1));
+                due.badState("call " + kind + " with arguments that were right", () -> Stores.call(s, which, 0, 0));
+                due.badState("call " + kind + " with wrong ones", () -> Stores.call(s, which, -1, -1));
             }
         }
         due.is("reopen()", 1, s::reopen);

@@ -7,16 +7,19 @@ import java.util.Comparator;
 import java.util.List;
 import java.util.Map;
 import java.util.TreeMap;
+import java.util.regex.Pattern;
 
 /**
  * Runs a test for each sentence of the document that names a boundary case, each for itself, and looks whether the
- * sentences of all tests are the document's, and all of its promises and terms.
+ * sentences of all tests are the document's, and all of its promises and of what stands before them.
  */
 public final class SentencesTest {
     private static final Class<?>[] TESTS = {
-        SentencesOfTerms.class, Sentences1To4.class, Sentences5To8.class, Sentences9To11.class,
-        Sentences12To14.class, Sentences15To17.class,
+        SentencesOfWhatItIs.class, SentencesOfTerms.class, Sentences1To4.class, Sentences5To8.class,
+        Sentences9To11.class, Sentences12To14.class, Sentences15To17.class,
     };
+
+    private static final Pattern TESTED = Pattern.compile("What it is|Terms|Promise \\d+");
 
     private final Due due = new Due("SentencesTest");
     private final Map<String, List<String>> quotes = new TreeMap<>();
@@ -68,7 +71,7 @@ public final class SentencesTest {
 
     private void lookForSentencesWithoutTest() {
         for (String heading : document.headings()) {
-            if (heading.equals("Terms") || heading.startsWith("Promise ")) {
+            if (TESTED.matcher(heading).matches()) {
                 due.part(heading);
                 due.is("words that no test quotes", "",
                         () -> document.unquoted(heading, quotes.getOrDefault(heading, List.of())));

@@ -109,4 +109,26 @@ final class Stores {
         s.crash(4);
         return s;
     }
+
+    /** One of the calls, by its place in the document, with the numbers that it takes. */
+    static Object call(BoardStore s, int kind, int a, int b) {
+        switch (kind) {
+            case 0: return s.feed(b);
+            case 1: return s.block();
+            case 2: return s.version();
+            case 3: return s.holds(a, b);
+            case 4: return s.root(a);
+            case 5: return s.sweep();
+            case 6: return s.pack();
+            case 7: return s.byteAt(a, b);
+            case 8: return s.crash(b);
+            case 9: return s.reopen();
+            case 10: return s.poke(a, b, b);
+            case 11: return s.badAt();
+            case 12: return s.packByte(a, b);
+            case 13: return s.digest(a, b);
+            case 14: return s.out(a, b);
+            default: return s.drop(a);
+        }
+    }
 }
